@@ -316,9 +316,8 @@ public final class RiverMeeting {
         long x = seed;
         for (int i = 0; i < m; i++) {
             x = nextNumber(x);
-            boolean wasOver = trial.isOver();
             simulateTurn(drawnFrom(x));
-            if (!wasOver && trial.meeting != NONE) {
+            if (trial.meeting != NONE) {
                 meetings++;
             }
         }

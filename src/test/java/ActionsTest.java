@@ -196,6 +196,10 @@ public final class ActionsTest {
         checks.due("head of 1", other.playerOf(1, 1), 10);
         checks.due("no way to the sea", other.cheapest(0, 0), -1);
         checks.due("a dam all the same", other.dam(7, 6), 0);
+        // heads (3, 6) and (4, 6), side by side: each can come to the other one alone
+        RiverMeeting both = Checks.loaded("Wv040d26d56d37d47ewewssssssssssss");
+        checks.due("heads", 100 * both.playerOf(0, 1) + both.playerOf(1, 1), 5152);
+        checks.due("a dam elsewhere", both.dam(0, 0), 0);
     }
 
     private static void damsThatGo() {

@@ -66,6 +66,8 @@ public final class QuestionsTest {
         checks.due("whyDam() of 1, with 0 shut in already", already.whyDam(7, 7), 3);
         RiverMeeting towards = Checks.loaded("Wwwswd02wd12wd77se");
         checks.due("whyDam() with a way to the other river alone", towards.whyDam(7, 6), 0);
+        RiverMeeting both = Checks.loaded("Wv040d26d56d37d47ewewssssssssssss");
+        checks.due("whyDam() with ways to each other alone", both.whyDam(0, 0), 0);
         RiverMeeting met = Checks.loaded("Wewewe");
         checks.due("whyDam() of a game that is over", met.whyDam(3, 3), -1);
         checks.due("whyDam() on a river then", met.whyDam(1, 0), -1);
@@ -158,25 +160,43 @@ public final class QuestionsTest {
         RiverMeeting met = Checks.loaded("Wewewe");
         checks.due("meetsIn(0) of rivers that met", met.meetsIn(0), 0);
         checks.due("meetsIn(1) of rivers that met", met.meetsIn(1), 0);
+        RiverMeeting behind = Checks.loaded("Wewewd77se");
+        checks.due("met behind the head of 1", behind.about(5) * 100 + behind.playerOf(1, 1), 412);
+        checks.due("meetsIn(0) of rivers that met", behind.meetsIn(0), 0);
+        checks.due("meetsIn(1) of rivers that met", behind.meetsIn(1), 0);
         RiverMeeting over = Checks.loaded("W" + "s".repeat(14) + "we" + "f".repeat(64));
         checks.due("meetsIn(0) of corners", over.meetsIn(0), -1);
     }
 
     private static void leastWished() {
         for (String text : GAMES) {
-            RiverMeeting x = Checks.loaded(text);
-            boolean[][] reached = {reach(x, 0), reach(x, 1)};
-            int due = -1;
-            int greatest = -1;
-            for (int cell = 0; cell < 64; cell++) {
-                int both = x.cellOf(cell % 8, cell / 8, 0) + x.cellOf(cell % 8, cell / 8, 1);
-                if (reached[0][cell] && reached[1][cell] && both > greatest) {
-                    due = cell;
-                    greatest = both;
-                }
-            }
-            checks.due("leastWished() in " + text, x.leastWished(), due);
+            leastWished(text, Checks.loaded(text));
         }
+        // where they met is no such cell, also if it would be the dearest one
+        for (int seed = 0; seed < 2000; seed++) {
+            RiverMeeting x = new RiverMeeting();
+            x.game(seed);
+            for (int i = 0; i < 5; i++) {
+                x.step(1 + i % 2);
+            }
+            if (Checks.cost(seed, 0, 4) + Checks.cost(seed, 1, 4) > 16) {
+                leastWished("the met rivers of " + seed, x);
+            }
+        }
+    }
+
+    private static void leastWished(String where, RiverMeeting x) {
+        boolean[][] reached = {reach(x, 0), reach(x, 1)};
+        int due = -1;
+        int greatest = -1;
+        for (int cell = 0; cell < 64; cell++) {
+            int both = x.cellOf(cell % 8, cell / 8, 0) + x.cellOf(cell % 8, cell / 8, 1);
+            if (reached[0][cell] && reached[1][cell] && both > greatest) {
+                due = cell;
+                greatest = both;
+            }
+        }
+        checks.due("leastWished() in " + where, x.leastWished(), due);
     }
 
     private static boolean[] reach(RiverMeeting x, int p) {

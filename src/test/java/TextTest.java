@@ -191,6 +191,19 @@ public final class TextTest {
 
     private static void makesAllNew() {
         RiverMeeting x = new RiverMeeting();
+        for (int seed = 0; seed < 20; seed++) {
+            x.game(seed);
+            for (int i = 0; i < 5; i++) {
+                x.step(1 + i % 2);
+            }
+        }
+        checks.due("both have won", x.playerOf(0, 4) > 0 && x.playerOf(1, 4) > 0 ? 1 : 0, 1);
+        x.game(6);
+        x.dam(0, 1);
+        x.step(0);
+        x.step(2);
+        x.step(0);
+        checks.due("a flood", x.flood(), 1);
         x.game(5);
         x.set(0, 7);
         x.set(1, 9);
