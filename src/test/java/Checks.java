@@ -14,11 +14,24 @@ final class Checks {
     }
 
     void due(String call, long answered, long due) {
+        due(call, Long.toString(answered), Long.toString(due));
+    }
+
+    void due(String call, String answered, String due) {
         made++;
-        if (answered != due) {
+        if (!answered.equals(due)) {
             wrong++;
             System.out.println(title + ": " + call + " answered " + answered + ", due is " + due);
         }
+    }
+
+    void isTrue(String what, boolean answered) {
+        due(what, Boolean.toString(answered), "true");
+    }
+
+    /** A loop that came to too few of the cases it looks for has looked at nothing. */
+    void seen(String what, int times) {
+        isTrue("seen: " + what, times > 0);
     }
 
     void throwsIndex(String call, Call c) {
@@ -33,19 +46,25 @@ final class Checks {
         throwsClass(call, c, IllegalStateException.class);
     }
 
+    /** The very class is due: what the machine throws is of a class below it. */
     private void throwsClass(String call, Call c, Class<? extends RuntimeException> due) {
-        made++;
         String answered;
         try {
-            answered = "answered " + c.answer();
+            answered = "answer " + c.answer();
         } catch (RuntimeException e) {
-            if (e.getClass() == due) {
-                return;
-            }
-            answered = "threw " + e.getClass().getName();
+            answered = e.getClass().getName();
         }
-        wrong++;
-        System.out.println(title + ": " + call + " " + answered + ", due is " + due.getName());
+        due(call, answered, due.getName());
+    }
+
+    /** Both objects must look alike in all that the document tells of them. */
+    void alike(String call, Looks.Maker one, Looks.Maker other) {
+        due(call, Looks.all(one), Looks.all(other));
+    }
+
+    /** Both objects must be in the same state, whatever their texts, slots and memories. */
+    void sameState(String call, Looks.Maker one, Looks.Maker other) {
+        due(call, Looks.state(one), Looks.state(other));
     }
 
     void end() {
@@ -53,60 +72,5 @@ final class Checks {
         if (wrong != 0) {
             System.exit(1);
         }
-    }
-
-    // ---- what several tests need
-
-    static void write(RiverMeeting x, String text) {
-        x.clearText();
-        for (int i = 0; i < text.length(); i++) {
-            x.append(text.charAt(i));
-        }
-    }
-
-    static RiverMeeting loaded(String text) {
-        RiverMeeting x = new RiverMeeting();
-        write(x, text);
-        x.load();
-        return x;
-    }
-
-    /** The cost of a cell as the document tells it, counted anew. */
-    static int cost(long seed, int p, int cell) {
-        long x = seed;
-        int r = 0;
-        for (int i = 0; i <= cell; i++) {
-            x = x * 6364136223846793005L + 1442695040888963407L;
-            r = (int) (x >>> 33);
-        }
-        return p == 0 ? r % 10 : r / 10 % 10;
-    }
-
-    /** All that the object tells of itself, but for the text and the remembered states. */
-    static String told(RiverMeeting x) {
-        StringBuilder all = new StringBuilder();
-        for (int what = 0; what <= 8; what++) {
-            all.append(x.about(what)).append(' ');
-        }
-        for (int p = 0; p < 2; p++) {
-            for (int what = 0; what <= 5; what++) {
-                all.append(x.playerOf(p, what)).append(' ');
-            }
-            for (int k = 0; k < x.playerOf(p, 0); k++) {
-                all.append(x.course(p, k)).append(' ');
-            }
-            all.append(x.setting(p)).append(' ');
-        }
-        for (int cell = 0; cell < 64; cell++) {
-            for (int what = 0; what <= 3; what++) {
-                all.append(x.cellOf(cell % 8, cell / 8, what)).append(' ');
-            }
-        }
-        return all.toString();
-    }
-
-    /** Checks that what the object tells is the same as before. */
-    void same(String call, String before, RiverMeeting x) {
-        due(call + " leaves all as it was", told(x).equals(before) ? 1 : 0, 1);
     }
 }

@@ -1,7 +1,10 @@
-/** All promises: runs of calls on the class and on the model, whose answers must be alike. */
+/**
+ * All promises: runs of calls on the class and on the model, whose answers must be alike. Each run
+ * has the 512 calls that the document promises of an object.
+ */
 public final class ModelTest {
-    private static final int RUNS = 200;
-    private static final int CALLS = 500;
+    private static final int RUNS = 1200;
+    private static final int CALLS = 512;
     private static final String SIGNS = "sssewbbbbfndv0123456789Wx";
 
     private final Checks checks = new Checks("model");
@@ -10,6 +13,7 @@ public final class ModelTest {
     private Model y;
     private final StringBuilder trace = new StringBuilder();
     private boolean differed = false;
+    private int calls = 0;
     private final int[] seen = new int[8];
 
     public static void main(String[] args) {
@@ -49,18 +53,16 @@ public final class ModelTest {
         y = new Model();
         trace.setLength(0);
         differed = false;
-        int kind = run % 4;
-        for (int i = 0; i < CALLS && !differed; i++) {
-            act(kind);
-            if (next(4) == 0) {
+        calls = 0;
+        int acting = 30 + next(CALLS - 29);
+        while (calls < acting && !differed) {
+            act(run % 4);
+            if (next(3) == 0) {
                 ask();
             }
-            if (next(12) == 0) {
-                compareAll();
-            }
         }
-        if (!differed) {
-            compareAll();
+        while (calls < CALLS && !differed) {
+            ask();
         }
     }
 
@@ -69,6 +71,10 @@ public final class ModelTest {
     }
 
     private int same(String name, Call ofClass, Call ofModel) {
+        if (calls == CALLS) {
+            return Integer.MIN_VALUE;
+        }
+        calls++;
         trace.append(name).append("; ");
         String due = answer(ofModel);
         String answered = answer(ofClass);
@@ -236,7 +242,6 @@ public final class ModelTest {
         }
         same("errorPosition", () -> x.errorPosition(), () -> y.errorPosition());
         seen[4] += same("load", () -> x.load(), () -> y.load()) >= 0 ? 1 : 0;
-        compareAll();
     }
 
     private static char signOf(int i) {
@@ -265,51 +270,51 @@ public final class ModelTest {
         int d = argument(3);
         int cx = argument(8);
         int cy = argument(8);
-        same("cheapest " + p + " " + way, () -> x.cheapest(p, way), () -> y.cheapest(p, way));
-        same("meetsIn " + p, () -> x.meetsIn(p), () -> y.meetsIn(p));
-        same("why " + d, () -> x.why(d), () -> y.why(d));
-        same("whyDam " + cx + " " + cy, () -> x.whyDam(cx, cy), () -> y.whyDam(cx, cy));
-        int what = argument(9);
-        int k = argument(20);
-        same("about " + what, () -> x.about(what), () -> y.about(what));
-        same("playerOf " + p + " " + what, () -> x.playerOf(p, what), () -> y.playerOf(p, what));
-        same("cellOf " + cx + " " + cy + " " + d, () -> x.cellOf(cx, cy, d),
-                () -> y.cellOf(cx, cy, d));
-        same("course " + p + " " + k, () -> x.course(p, k), () -> y.course(p, k));
-        same("setting " + way, () -> x.setting(way), () -> y.setting(way));
+        switch (next(12)) {
+            case 0:
+                same("cheapest " + p + " " + way, () -> x.cheapest(p, way),
+                        () -> y.cheapest(p, way));
+                break;
+            case 1:
+                same("meetsIn " + p, () -> x.meetsIn(p), () -> y.meetsIn(p));
+                break;
+            case 2:
+                same("why " + d, () -> x.why(d), () -> y.why(d));
+                break;
+            case 3:
+                same("leastWished", () -> x.leastWished(), () -> y.leastWished());
+                break;
+            case 4:
+                same("best", () -> x.best(), () -> y.best());
+                break;
+            case 5:
+                same("setting " + way, () -> x.setting(way), () -> y.setting(way));
+                break;
+            case 6:
+            case 7:
+                same("whyDam " + cx + " " + cy, () -> x.whyDam(cx, cy), () -> y.whyDam(cx, cy));
+                break;
+            default:
+                askNumber(p, cx, cy);
+        }
     }
 
-    private void compareAll() {
-        same("leastWished", () -> x.leastWished(), () -> y.leastWished());
-        same("best", () -> x.best(), () -> y.best());
-        for (int k = 0; k < 9; k++) {
-            int what = k;
-            same("about " + k, () -> x.about(what), () -> y.about(what));
-        }
-        for (int k = 0; k < 2; k++) {
-            int p = k;
-            for (int j = 0; j < 6; j++) {
-                int what = j;
-                same("playerOf " + k + " " + j, () -> x.playerOf(p, what),
-                        () -> y.playerOf(p, what));
-            }
-            same("cheapest " + p + " 0", () -> x.cheapest(p, 0), () -> y.cheapest(p, 0));
-            same("cheapest " + p + " 1", () -> x.cheapest(p, 1), () -> y.cheapest(p, 1));
-            same("meetsIn " + p, () -> x.meetsIn(p), () -> y.meetsIn(p));
-            for (int place = 0; place <= y.playerOf(p, 0); place++) {
-                int at = place;
-                same("course " + p + " " + at, () -> x.course(p, at), () -> y.course(p, at));
-            }
-        }
-        for (int cell = 0; cell < 64; cell++) {
-            int cx = cell % 8;
-            int cy = cell / 8;
-            for (int k = 0; k < 4; k++) {
-                int what = k;
-                same("cellOf " + cx + " " + cy + " " + k, () -> x.cellOf(cx, cy, what),
-                        () -> y.cellOf(cx, cy, what));
-            }
-            same("whyDam " + cx + " " + cy, () -> x.whyDam(cx, cy), () -> y.whyDam(cx, cy));
+    private void askNumber(int p, int cx, int cy) {
+        int what = argument(9);
+        int k = next(2) == 0 ? argument(6) : argument(42);
+        switch (next(4)) {
+            case 0:
+                same("about " + what, () -> x.about(what), () -> y.about(what));
+                break;
+            case 1:
+                same("playerOf " + p + " " + k, () -> x.playerOf(p, k), () -> y.playerOf(p, k));
+                break;
+            case 2:
+                same("course " + p + " " + k, () -> x.course(p, k), () -> y.course(p, k));
+                break;
+            default:
+                same("cellOf " + cx + " " + cy + " " + what % 4,
+                        () -> x.cellOf(cx, cy, what % 4), () -> y.cellOf(cx, cy, what % 4));
         }
     }
 }

@@ -1,358 +1,379 @@
-/** Promises 17 to 22. */
+/** The promises 19 to 22: cheapest, meetsIn, leastWished, best. */
 public final class QuestionsTest {
     private static final Checks checks = new Checks("questions");
 
+    private static final int[] WRONG = {-1, 2, 3, Integer.MIN_VALUE, Integer.MAX_VALUE};
+
+    private static final String ROW_7 = "s".repeat(14);
+
+    /** The rivers end in (1, 7) and (3, 7): (2, 7) alone lies between them. */
+    private static final String ONE_BETWEEN = "swswsw" + "s".repeat(8) + "d00sd70sd77s";
+
+    /** Those in (1, 7) and (4, 7): (2, 7) and (3, 7) lie between them. */
+    private static final String TWO_BETWEEN = "swsw" + "s".repeat(10) + "d00sd70s";
+
+    /** Moves that are possible on any field. */
     private static final String[] GAMES = {
-        "W", "Wewew", "Wewewe", "Wwwswd02wd12wd77se", "Wd01sws", "Wd77sed13sd33sd24ss",
-        "Wn05bbbbbbbbbbbb", "Wn17d33d44bbbbbbbb", "Wn42bbd27bbd16bb", "Wn63d11d61wewesssss"
+        "", "s", "ewew", "ewewd77s", Games.MET, "ewewd77se", Games.STUCK, Games.STUCK + "f",
+        Games.SIDE_BY_SIDE, "wwswewd22sd77se", "s".repeat(6), "s".repeat(11), "s".repeat(12),
+        "s".repeat(13), ROW_7, ROW_7 + "e", Games.CORNERS, ONE_BETWEEN, TWO_BETWEEN, "we",
+        "d21d51", "d11d61", "v003d21d66", "v002d22", "d23d53d24d54d25d55", "seessd34d43",
+        "d13d33d24d44sees", "d12sd21sd01ss", "esd00wd07wd17wew", "v109d02sd11swss",
+        "d31d41d32d42d33d43", "d26sd36sd46s" + "s".repeat(6), "v101ewew", "v109ewew"
     };
 
     public static void main(String[] args) {
-        why();
-        whyDam();
-        cheapest();
-        cheapestOfAllWays();
-        meetsIn();
-        leastWished();
-        leastWishedByHand();
-        best();
+        playersAndWaysThereAre();
+        allGamesOnManyFields();
+        gamesOfBestSteps();
+        noughtInTheRow7();
+        aboveTheRow7();
+        withoutAWay();
+        stepsToTheOtherRiver();
+        leastWishedBetween();
+        leastWishedOfLikeOnes();
+        leastWishedNowhere();
+        bestOfLikeOnes();
         bestThatMeets();
         bestWithoutAWay();
-        wrongInputs();
+        bestByTheDamsAsTheyAre();
+        noBestStep();
         changeNothing();
         checks.end();
     }
 
-    private static void why() {
-        RiverMeeting x = Checks.loaded("Wwe");
-        checks.due("why(0)", x.why(0), 0);
-        checks.due("why(1), the own river", x.why(1), 3);
-        checks.due("why(2), no such cell", x.why(2), 1);
-        checks.due("refused nowhere", x.about(7), 0);
-        RiverMeeting dam = Checks.loaded("Wsd12");
-        checks.due("why(0), a dam", dam.why(0), 2);
-        checks.due("why(1)", dam.why(1), 0);
-        checks.due("why(2)", dam.why(2), 0);
-        RiverMeeting beside = Checks.loaded("Wewew");
-        checks.due("why(1), the other river", beside.why(1), 0);
-        RiverMeeting sea = Checks.loaded("W" + "s".repeat(14));
-        checks.due("why(0), the sea", sea.why(0), 1);
-        RiverMeeting met = Checks.loaded("Wewewe");
-        RiverMeeting drawn = Checks.loaded("W" + "s".repeat(14) + "we" + "f".repeat(64));
-        for (int direction = 0; direction < 3; direction++) {
-            checks.due("why() of a game that is over", met.why(direction), -1);
-            checks.due("why() of a drawn game", drawn.why(direction), -1);
-        }
-    }
-
-    private static void whyDam() {
-        RiverMeeting x = Checks.loaded("Wd33w");
-        checks.due("whyDam() on the own river", x.whyDam(1, 0), 1);
-        checks.due("whyDam() on the other river", x.whyDam(5, 0), 1);
-        checks.due("whyDam() on a dam", x.whyDam(3, 3), 1);
-        checks.due("whyDam() elsewhere", x.whyDam(3, 4), 0);
-        checks.due("refused nowhere", x.about(7), 0);
-        checks.due("nothing is built", x.about(4), 1);
-        RiverMeeting three = Checks.loaded("Wd30d40d31d41d32d42");
-        checks.due("whyDam(), three built", three.whyDam(3, 3), 2);
-        checks.due("whyDam(), three built, on a dam", three.whyDam(3, 2), 1);
-        RiverMeeting shut = Checks.loaded("Wwesssssssssssd16");
-        checks.due("turn", shut.about(2), 0);
-        checks.due("whyDam() that shuts in the own river", shut.whyDam(0, 7), 3);
-        checks.due("whyDam() elsewhere", shut.whyDam(2, 2), 0);
-        shut.step(0);
-        checks.due("whyDam() beside a river in the row 7", shut.whyDam(1, 7), 0);
-        RiverMeeting already = Checks.loaded("Wd01sw");
-        checks.due("whyDam() of 1, with 0 shut in already", already.whyDam(7, 7), 3);
-        RiverMeeting towards = Checks.loaded("Wwwswd02wd12wd77se");
-        checks.due("whyDam() with a way to the other river alone", towards.whyDam(7, 6), 0);
-        RiverMeeting both = Checks.loaded("Wv040d26d56d37d47ewewssssssssssss");
-        checks.due("whyDam() with ways to each other alone", both.whyDam(0, 0), 0);
-        RiverMeeting met = Checks.loaded("Wewewe");
-        checks.due("whyDam() of a game that is over", met.whyDam(3, 3), -1);
-        checks.due("whyDam() on a river then", met.whyDam(1, 0), -1);
-    }
-
-    private static void cheapest() {
-        // all in the row 0 but for one column: the way down is told cell by cell
-        RiverMeeting x = Checks.loaded("W" + "s".repeat(12));
-        int south = Checks.cost(0, 0, 57);
-        int west = Checks.cost(0, 0, 48) + Checks.cost(0, 0, 56);
-        int east = Checks.cost(0, 0, 50) + Checks.cost(0, 0, 58);
-        int due = Math.min(south, Math.min(west, east));
-        for (int k = 51; k < 54; k++) {
-            int along = 0;
-            for (int cell = 50; cell <= k; cell++) {
-                along += Checks.cost(0, 0, cell);
-            }
-            due = Math.min(due, along + Checks.cost(0, 0, k + 8));
-        }
-        checks.due("cheapest(0, 0)", x.cheapest(0, 0), due);
-        checks.due("cheapest(0, 1)", x.cheapest(0, 1), due);
-        RiverMeeting low = Checks.loaded("W" + "s".repeat(14));
-        RiverMeeting shut = Checks.loaded("Wwwswd02wd12wd77se");
-        for (int way = 0; way < 2; way++) {
-            checks.due("cheapest() in the row 7", low.cheapest(0, way), 0);
-            checks.due("cheapest() in the row 7", low.cheapest(1, way), 0);
-            checks.due("cheapest() without a way", shut.cheapest(0, way), -1);
-        }
-    }
-
-    /** The cheapest way is looked for among all ways, one after the other. */
-    private static void cheapestOfAllWays() {
-        for (String text : GAMES) {
-            RiverMeeting x = Checks.loaded(text);
-            for (int p = 0; p < 2; p++) {
-                int due = leastDown(x, p, x.playerOf(p, 1));
-                checks.due("cheapest(" + p + ", 0) in " + text, x.cheapest(p, 0), due);
-                checks.due("cheapest(" + p + ", 1) in " + text, x.cheapest(p, 1), due);
+    /** IndexOutOfBoundsException comes first, then IllegalArgumentException. */
+    private static void playersAndWaysThereAre() {
+        for (String moves : new String[] {"", Games.MET, Games.DRAWN, ROW_7}) {
+            RiverMeeting x = Games.played(moves);
+            for (int wrong : WRONG) {
+                checks.throwsIndex("cheapest(" + wrong + ", 0)", () -> x.cheapest(wrong, 0));
+                checks.throwsIndex("cheapest(" + wrong + ", 1)", () -> x.cheapest(wrong, 1));
+                checks.throwsIndex("cheapest(" + wrong + ", 2)", () -> x.cheapest(wrong, 2));
+                checks.throwsIndex("cheapest(" + wrong + ", -1)", () -> x.cheapest(wrong, -1));
+                checks.throwsArgument("cheapest(0, " + wrong + ")", () -> x.cheapest(0, wrong));
+                checks.throwsArgument("cheapest(1, " + wrong + ")", () -> x.cheapest(1, wrong));
+                checks.throwsIndex("meetsIn(" + wrong + ")", () -> x.meetsIn(wrong));
             }
         }
     }
 
-    private static boolean free(RiverMeeting x, int column, int row) {
-        return column >= 0 && column < 8 && row < 8 && x.cellOf(column, row, 2) == 0;
-    }
-
-    /** Row by row: along a row in one direction, then down, or NONE. */
-    private static int leastDown(RiverMeeting x, int p, int from) {
-        int[] onward = new int[8];
-        for (int row = 6; row >= from / 8; row--) {
-            int[] here = new int[8];
-            for (int column = 0; column < 8; column++) {
-                here[column] = leastFrom(x, p, column, row, onward);
-            }
-            onward = here;
-        }
-        return from / 8 == 7 ? 0 : onward[from % 8];
-    }
-
-    private static int leastFrom(RiverMeeting x, int p, int column, int row, int[] onward) {
-        int least = -1;
-        for (int side = -1; side <= 1; side += 2) {
-            int along = 0;
-            for (int c = column; c == column || free(x, c, row); c += side) {
-                along += c == column ? 0 : x.cellOf(c, row, p);
-                if (free(x, c, row + 1) && onward[c] >= 0) {
-                    int cost = along + x.cellOf(c, row + 1, p) + onward[c];
-                    least = least < 0 ? cost : Math.min(least, cost);
-                }
-            }
-        }
-        return least;
-    }
-
-    private static void meetsIn() {
+    private static RiverMeeting gameOf(int seed, String moves) {
         RiverMeeting x = new RiverMeeting();
-        checks.due("meetsIn(0) at first", x.meetsIn(0), 5);
-        checks.due("meetsIn(1) at first", x.meetsIn(1), 5);
-        RiverMeeting y = Checks.loaded("Wwsss");
-        checks.due("meetsIn(0), other below", y.meetsIn(0), 6);
-        checks.due("meetsIn(1), other above its head", y.meetsIn(1), -1);
-        RiverMeeting dam = Checks.loaded("Wd30");
-        checks.due("meetsIn(0) round a dam is none", dam.meetsIn(0), -1);
-        checks.due("meetsIn(1) round a dam is none", dam.meetsIn(1), -1);
-        dam.step(0);
-        checks.due("meetsIn(0) below the dam", dam.meetsIn(0), 6);
-        RiverMeeting shut = Checks.loaded("Wwwswd02wd12wd77se");
-        checks.due("meetsIn(0) beside", shut.meetsIn(0), 1);
-        checks.due("meetsIn(1) of (2, 1) to (1, 1)", shut.meetsIn(1), 1);
-        RiverMeeting met = Checks.loaded("Wewewe");
-        checks.due("meetsIn(0) of rivers that met", met.meetsIn(0), 0);
-        checks.due("meetsIn(1) of rivers that met", met.meetsIn(1), 0);
-        RiverMeeting behind = Checks.loaded("Wewewd77se");
-        checks.due("met behind the head of 1", behind.about(5) * 100 + behind.playerOf(1, 1), 412);
-        checks.due("meetsIn(0) of rivers that met", behind.meetsIn(0), 0);
-        checks.due("meetsIn(1) of rivers that met", behind.meetsIn(1), 0);
-        RiverMeeting over = Checks.loaded("W" + "s".repeat(14) + "we" + "f".repeat(64));
-        checks.due("meetsIn(0) of corners", over.meetsIn(0), -1);
+        x.game(seed);
+        Games.play(x, moves);
+        return x;
     }
 
-    private static void leastWished() {
-        for (String text : GAMES) {
-            leastWished(text, Checks.loaded(text));
+    private static void asSeen(String when, RiverMeeting x) {
+        Seen seen = new Seen(x);
+        for (int p = 0; p < 2; p++) {
+            int cheapest = seen.cheapest(p);
+            checks.due("cheapest(" + p + ", 0) " + when, x.cheapest(p, 0), cheapest);
+            checks.due("cheapest(" + p + ", 1) " + when, x.cheapest(p, 1), cheapest);
+            checks.due("meetsIn(" + p + ") " + when, x.meetsIn(p), seen.meetsIn(p));
         }
-        // where they met is no such cell, also if it would be the dearest one
-        for (int seed = 0; seed < 2000; seed++) {
-            RiverMeeting x = new RiverMeeting();
-            x.game(seed);
-            for (int i = 0; i < 5; i++) {
-                x.step(1 + i % 2);
-            }
-            if (Checks.cost(seed, 0, 4) + Checks.cost(seed, 1, 4) > 16) {
-                leastWished("the met rivers of " + seed, x);
+        checks.due("leastWished() " + when, x.leastWished(), seen.leastWished());
+        checks.due("best() " + when, x.best(), seen.best());
+    }
+
+    private static void allGamesOnManyFields() {
+        for (String moves : GAMES) {
+            for (int seed = 0; seed < 30; seed++) {
+                asSeen("behind " + moves + " with the seed " + seed, gameOf(seed, moves));
             }
         }
     }
 
-    private static void leastWished(String where, RiverMeeting x) {
-        boolean[][] reached = {reach(x, 0), reach(x, 1)};
-        int due = -1;
-        int greatest = -1;
-        for (int cell = 0; cell < 64; cell++) {
-            int both = x.cellOf(cell % 8, cell / 8, 0) + x.cellOf(cell % 8, cell / 8, 1);
-            if (reached[0][cell] && reached[1][cell] && both > greatest) {
-                due = cell;
-                greatest = both;
-            }
-        }
-        checks.due("leastWished() in " + where, x.leastWished(), due);
-    }
-
-    private static boolean[] reach(RiverMeeting x, int p) {
-        boolean[] reached = new boolean[64];
-        reached[x.playerOf(p, 1)] = true;
-        boolean[] free = new boolean[64];
-        for (int round = 0; round < 64; round++) {
-            for (int cell = 0; cell < 64; cell++) {
-                if (!free(x, cell % 8, cell / 8)) {
-                    continue;
+    private static void gamesOfBestSteps() {
+        for (int seed = 0; seed < 120; seed++) {
+            RiverMeeting x = gameOf(seed, "v00" + (1 + seed % 9));
+            for (int turns = 0; turns < seed % 24; turns++) {
+                int best = x.best();
+                if (best < 0) {
+                    break;
                 }
-                boolean here = cell >= 8 && reached[cell - 8]
-                        || cell % 8 > 0 && reached[cell - 1]
-                        || cell % 8 < 7 && reached[cell + 1];
-                if (here) {
-                    reached[cell] = true;
-                    free[cell] = true;
+                if (turns % 4 == 1 && x.whyDam(seed % 8, turns % 8) == 0) {
+                    x.dam(seed % 8, turns % 8);
+                } else {
+                    x.step(best);
                 }
             }
+            asSeen("behind best steps with the seed " + seed, x);
         }
-        return free;
     }
 
-    private static void leastWishedByHand() {
-        // both in the row 7 with (2, 7) to (5, 7) between them
-        RiverMeeting x = Checks.loaded("W" + "s".repeat(14));
-        int due = -1;
-        int greatest = -1;
-        for (int cell = 58; cell < 62; cell++) {
-            int both = Checks.cost(0, 0, cell) + Checks.cost(0, 1, cell);
-            if (both > greatest) {
-                due = cell;
-                greatest = both;
+    /** 0 if the head is in that row (the same for both ways), also if it can make no step. */
+    private static void noughtInTheRow7() {
+        String[] games = {
+            ROW_7, ROW_7 + "e", Games.CORNERS, Games.DRAWN, ONE_BETWEEN, ROW_7 + "ewew"
+        };
+        for (String moves : games) {
+            RiverMeeting x = Games.played(moves);
+            for (int p = 0; p < 2; p++) {
+                checks.due("cheapest(" + p + ", 0) behind " + moves, x.cheapest(p, 0), 0);
+                checks.due("cheapest(" + p + ", 1) behind " + moves, x.cheapest(p, 1), 0);
             }
         }
-        checks.due("leastWished() between", x.leastWished(), due);
-        RiverMeeting corners = Checks.loaded("W" + "s".repeat(14) + "we");
-        checks.due("leastWished() of corners", corners.leastWished(), -1);
-        RiverMeeting row = Checks.loaded("W" + "s".repeat(14) + "eweww");
-        checks.due("leastWished() with nothing between", row.leastWished(), -1);
+        RiverMeeting one = Games.played("s".repeat(13));
+        checks.due("cheapest(0, 0) in the row 7", one.cheapest(0, 0), 0);
+        checks.due("cheapest(1, 0) in the row 6", one.cheapest(1, 0), new Seen(one).cheapest(1));
     }
 
-    private static void best() {
-        for (String text : GAMES) {
-            RiverMeeting x = Checks.loaded(text);
-            int p = x.about(2);
-            int due = -1;
-            int least = Integer.MAX_VALUE;
-            for (int direction = 0; direction < 3 && p >= 0; direction++) {
-                if (x.why(direction) != 0) {
-                    continue;
-                }
-                int head = x.playerOf(p, 1);
-                int cell = direction == 0 ? head + 8 : direction == 1 ? head + 1 : head - 1;
-                int cost = x.cellOf(cell % 8, cell / 8, p);
-                int onward = leastDown(x, p, cell);
-                int price = onward < 0 ? 1000 : cost + onward;
-                if (x.cellOf(cell % 8, cell / 8, 2) != 0) {
-                    price = x.setting(1) * cost;
-                }
-                if (price < least) {
-                    due = direction;
-                    least = price;
-                }
-            }
-            checks.due("best() in " + text, x.best(), due);
-        }
-        checks.due("best() of a game that is over", Checks.loaded("Wewewe").best(), -1);
-        checks.due("best() without a step", Checks.loaded("Wd01sws").best(), -1);
-        RiverMeeting over = Checks.loaded("W" + "s".repeat(14) + "we" + "f".repeat(64));
-        checks.due("best() of a drawn game", over.best(), -1);
-    }
-
-    /** One that meets costs the setting times the cell, and nothing more. */
-    private static void bestThatMeets() {
+    /** The costs of the cells of a way without the head; a way may cost nothing. */
+    private static void aboveTheRow7() {
+        int nothing = 0;
+        int sideways = 0;
         for (int seed = 0; seed < 60; seed++) {
-            for (int factor = 1; factor <= 9; factor += 2) {
-                RiverMeeting x = new RiverMeeting();
-                x.game(seed);
-                x.set(1, factor);
-                for (int i = 0; i < 4; i++) {
-                    x.step(1 + i % 2);
-                }
-                int south = Checks.cost(seed, 0, 11) + leastDown(x, 0, 11);
-                int east = factor * Checks.cost(seed, 0, 4);
-                checks.due("best() beside the other river", x.best(), south <= east ? 0 : 1);
+            RiverMeeting x = gameOf(seed, "s".repeat(12));
+            int south = Games.cost(seed, 0, 57);
+            int due = Math.min(south, Games.costs(seed, 0, 48, 56));
+            int east = 0;
+            for (int column = 2; column < 6; column++) {
+                east += Games.cost(seed, 0, 48 + column);
+                due = Math.min(due, east + Games.cost(seed, 0, 56 + column));
             }
+            checks.due("cheapest(0, 0) from the row 6", x.cheapest(0, 0), due);
+            checks.due("cheapest(0, 1) from the row 6", x.cheapest(0, 1), due);
+            nothing += due == 0 ? 1 : 0;
+            sideways += due < south ? 1 : 0;
         }
+        checks.seen("a way that costs nothing", nothing);
+        checks.seen("a way that is cheaper than the straight one", sideways);
     }
 
+    /** NONE if there is no way: over cells without dams and rivers, and not round a border. */
+    private static void withoutAWay() {
+        String[] ofFirst = {
+            Games.STUCK, Games.SIDE_BY_SIDE, "wwswewd22sd77se", "d02sd11swss", "d12sd21sd01sss"
+        };
+        for (String moves : ofFirst) {
+            RiverMeeting x = Games.played(moves);
+            checks.due("cheapest(0, 0) behind " + moves, x.cheapest(0, 0), -1);
+            checks.due("cheapest(0, 1) behind " + moves, x.cheapest(0, 1), -1);
+            checks.isTrue("1 has a way", x.cheapest(1, 0) >= 0 && x.cheapest(1, 1) >= 0);
+        }
+        RiverMeeting x = Games.played("sd72sd61sess");
+        checks.due("the head of 1", x.playerOf(1, 1), 15);
+        checks.due("cheapest(1, 0) at the east border", x.cheapest(1, 0), -1);
+        checks.due("cheapest(1, 1) at the east border", x.cheapest(1, 1), -1);
+    }
+
+    private static void meetsInDue(String moves, int of0, int of1) {
+        RiverMeeting x = Games.played(moves);
+        checks.due("meetsIn(0) behind " + moves, x.meetsIn(0), of0);
+        checks.due("meetsIn(1) behind " + moves, x.meetsIn(1), of1);
+    }
+
+    /** The fewest steps; NONE if there is no way; 0 if they met. */
+    private static void stepsToTheOtherRiver() {
+        meetsInDue("", 5, 5);
+        meetsInDue("e", 4, 4);
+        meetsInDue("ewe", 2, 2);
+        meetsInDue("ewew", 1, 1);
+        meetsInDue(Games.MET, 0, 0);
+        meetsInDue("ewewd77se", 0, 0);
+        meetsInDue("s", -1, 5);
+        meetsInDue("ss", 5, 5);
+        meetsInDue("wsss", 6, -1);
+        meetsInDue("d30", -1, -1);
+        meetsInDue("d30s", 6, -1);
+        meetsInDue("d01sw", -1, -1);
+        meetsInDue("wsd77ss", 6, -1);
+        meetsInDue("wsd31ss", 7, -1);
+        meetsInDue("wsd31sd32sd33s", 10, -1);
+        meetsInDue(Games.SIDE_BY_SIDE, 1, 1);
+        meetsInDue("wwswewd22sd77se", 1, -1);
+        meetsInDue(ROW_7, 5, 5);
+        meetsInDue(ROW_7 + "d37", -1, -1);
+        meetsInDue(Games.CORNERS, -1, -1);
+        meetsInDue(Games.DRAWN, -1, -1);
+        meetsInDue(ONE_BETWEEN, 2, 2);
+        meetsInDue(ONE_BETWEEN + "e", 1, 1);
+    }
+
+    /** The cell with the greatest cost for both players together, also if that is 0. */
+    private static void leastWishedBetween() {
+        int[] sums = new int[19];
+        for (int seed = 0; seed < 700; seed++) {
+            RiverMeeting x = gameOf(seed, ONE_BETWEEN);
+            checks.due("leastWished() of one cell", x.leastWished(), 58);
+            sums[Games.cost(seed, 0, 58) + Games.cost(seed, 1, 58)]++;
+        }
+        checks.seen("a cell that costs nothing", sums[0]);
+        checks.seen("a cell that costs 18", sums[18]);
+        int[] chosen = new int[2];
+        int like = 0;
+        for (int seed = 0; seed < 100; seed++) {
+            RiverMeeting x = gameOf(seed, TWO_BETWEEN);
+            int west = Games.cost(seed, 0, 58) + Games.cost(seed, 1, 58);
+            int east = Games.cost(seed, 0, 59) + Games.cost(seed, 1, 59);
+            checks.due("leastWished() of two cells", x.leastWished(), west >= east ? 58 : 59);
+            chosen[west >= east ? 0 : 1]++;
+            like += west == east ? 1 : 0;
+        }
+        checks.seen("the west one", chosen[0]);
+        checks.seen("the east one", chosen[1]);
+        checks.seen("two that cost the same", like);
+    }
+
+    /** Of several the lowest number. */
+    private static void leastWishedOfLikeOnes() {
+        int several = 0;
+        for (int seed = 0; seed < 60; seed++) {
+            RiverMeeting x = gameOf(seed, "");
+            Seen seen = new Seen(x);
+            several += seen.leastWishedCells() > 1 ? 1 : 0;
+            checks.due("leastWished() with the seed " + seed, x.leastWished(), seen.leastWished());
+        }
+        checks.seen("several cells of the greatest cost", several);
+    }
+
+    /** NONE if there is none: to which both heads can come, each over free cells. */
+    private static void leastWishedNowhere() {
+        String[] games = {
+            Games.CORNERS, Games.DRAWN, ONE_BETWEEN + "e", ONE_BETWEEN + "ww",
+            "d01sw", Games.STUCK, Games.SIDE_BY_SIDE, ROW_7 + "d27d37d47"
+        };
+        for (String moves : games) {
+            checks.due("leastWished() behind " + moves, Games.played(moves).leastWished(), -1);
+        }
+        RiverMeeting dam = Games.played("swsw" + "s".repeat(10) + "d00sd70sd27");
+        checks.due("the dam", dam.cellOf(2, 7, 2), 4);
+        checks.due("leastWished() behind a dam", dam.leastWished(), -1);
+        RiverMeeting met = Games.played(Games.MET);
+        checks.due("leastWished() of rivers that met", met.leastWished(),
+                new Seen(met).leastWished());
+        checks.isTrue("a cell both could come to", met.leastWished() > 7);
+    }
+
+    private static void bestOf(int seed, String moves, int[] like) {
+        RiverMeeting x = gameOf(seed, moves);
+        Seen seen = new Seen(x);
+        int[] prices = seen.prices();
+        int best = seen.best();
+        checks.due("best() behind " + moves + " with the seed " + seed, x.best(), best);
+        for (int direction = best + 1; best >= 0 && direction < 3; direction++) {
+            like[3 * best + direction] += prices[direction] == prices[best] ? 1 : 0;
+        }
+        like[best < 0 ? 0 : 4 * best]++;
+    }
+
+    /** Of several the lowest. */
+    private static void bestOfLikeOnes() {
+        int[] like = new int[9];
+        for (int seed = 0; seed < 300; seed++) {
+            bestOf(seed, "", like);
+            bestOf(seed, "s", like);
+            bestOf(seed, "d11", like);
+            bestOf(seed, "sd12", like);
+        }
+        for (int direction = 0; direction < 3; direction++) {
+            checks.seen("the best step " + direction, like[4 * direction]);
+        }
+        checks.seen("0 and 1 are alike", like[1]);
+        checks.seen("0 and 2 are alike", like[2]);
+        checks.seen("1 and 2 are alike", like[5]);
+    }
+
+    /** One that meets the other river costs what the player pays for that, and nothing more. */
+    private static void bestThatMeets() {
+        int[] chosen = new int[3];
+        int like = 0;
+        int byThePlayer = 0;
+        for (int seed = 0; seed < 60; seed++) {
+            for (int factor = 1; factor <= 9; factor++) {
+                RiverMeeting x = gameOf(seed, "v10" + factor + "ewew");
+                int[] prices = new Seen(x).prices();
+                int meeting = factor * Games.cost(seed, 0, 4);
+                checks.due("what the meeting costs", prices[1], meeting);
+                int best = x.best();
+                checks.due("best() beside the other river", best, prices[0] <= meeting ? 0 : 1);
+                chosen[best]++;
+                like += prices[0] == meeting ? 1 : 0;
+                byThePlayer += prices[0] <= factor * Games.cost(seed, 1, 4) != (best == 0) ? 1 : 0;
+            }
+        }
+        checks.seen("south", chosen[0]);
+        checks.seen("the meeting", chosen[1]);
+        checks.seen("both cost the same", like);
+        checks.seen("the cost of the other player would lead elsewhere", byThePlayer);
+    }
+
+    /** Those without a way to the sea come behind all others, and are alike. */
     private static void bestWithoutAWay() {
+        int dear = 0;
+        int cheap = 0;
         for (int seed = 0; seed < 40; seed++) {
             // 1 in (5, 1): south is a dam, east leads nowhere, west meets 0 in (4, 1)
-            RiverMeeting x = begun(seed, "d07wd17sed72ed62ed52s");
-            x.set(1, 9);
-            checks.due("heads", 100 * x.playerOf(0, 1) + x.playerOf(1, 1), 1213);
-            checks.due("turn of 1", x.about(2), 1);
-            checks.due("why(0)", x.why(0), 2);
-            checks.due("why(1)", x.why(1), 0);
+            RiverMeeting x = gameOf(seed, "v109d07wd17sed72ed62ed52s");
+            checks.due("the heads", 100 * x.playerOf(0, 1) + x.playerOf(1, 1), 1213);
             checks.due("no way to the sea", x.cheapest(1, 0), -1);
             checks.due("one that meets comes before one that leads nowhere", x.best(), 2);
-            // 0 in (2, 6) over a row of dams, beside the river of 1: both ways lead nowhere
-            RiverMeeting y = begun(seed, "ed27d07d47d17d57d37sssssssssssss");
-            checks.due("heads", 100 * y.playerOf(0, 1) + y.playerOf(1, 1), 5062);
-            checks.due("turn of 0", y.about(2), 0);
+            // 0 in (2, 6) over a row of dams: both ways lead nowhere
+            RiverMeeting y = gameOf(seed, "ed27d07d47d17d57d37sssssssssssss");
+            checks.due("the heads", 100 * y.playerOf(0, 1) + y.playerOf(1, 1), 5062);
             checks.due("no way to the sea", y.cheapest(0, 0), -1);
-            checks.due("why(0)", y.why(0), 2);
-            checks.due("why(1)", y.why(1), 0);
-            checks.due("why(2)", y.why(2), 0);
             checks.due("the lowest of steps that lead nowhere", y.best(), 1);
+            dear += Games.cost(seed, 0, 51) > Games.cost(seed, 0, 49) ? 1 : 0;
+            // 0 in (1, 1): south and west lead nowhere, east leads on
+            RiverMeeting z = gameOf(seed, "d13d22d02sss");
+            checks.due("the step that leads to the sea", z.best(), 1);
+            cheap += Games.cost(seed, 0, 17) < Games.cost(seed, 0, 10) ? 1 : 0;
         }
+        checks.seen("a dear step that leads nowhere, lower than a cheap one", dear);
+        checks.seen("a cheap step that leads nowhere, lower than a dear one", cheap);
     }
 
-    private static RiverMeeting begun(int seed, String commands) {
-        return Checks.loaded("Wn" + seed / 10 + seed % 10 + commands);
-    }
-
-    private static void wrongInputs() {
-        RiverMeeting x = new RiverMeeting();
-        int[] odd = {-1, 8, Integer.MIN_VALUE, Integer.MAX_VALUE};
-        for (int v : odd) {
-            checks.throwsArgument("why(" + v + ")", () -> x.why(v));
-            checks.throwsIndex("whyDam(" + v + ", 0)", () -> x.whyDam(v, 0));
-            checks.throwsIndex("whyDam(0, " + v + ")", () -> x.whyDam(0, v));
-            checks.throwsIndex("cheapest(" + v + ", 0)", () -> x.cheapest(v, 0));
-            checks.throwsIndex("cheapest(" + v + ", 2)", () -> x.cheapest(v, 2));
-            checks.throwsArgument("cheapest(1, " + v + ")", () -> x.cheapest(1, v));
-            checks.throwsIndex("meetsIn(" + v + ")", () -> x.meetsIn(v));
+    /** By the dams as they are now: also those that go at the end of the turn. */
+    private static void bestByTheDamsAsTheyAre() {
+        int differs = 0;
+        for (int seed = 0; seed < 60; seed++) {
+            RiverMeeting going = gameOf(seed, "v003d13d77");
+            RiverMeeting without = gameOf(seed, "d77d70");
+            checks.due("the dam goes at the end of the turn", going.cellOf(1, 3, 3), 2);
+            int best = new Seen(going).best();
+            checks.due("best() with the seed " + seed, going.best(), best);
+            differs += without.best() != best ? 1 : 0;
         }
-        checks.throwsArgument("why(3)", () -> x.why(3));
-        checks.throwsIndex("cheapest(2, 0)", () -> x.cheapest(2, 0));
-        checks.throwsArgument("cheapest(0, 2)", () -> x.cheapest(0, 2));
-        checks.throwsIndex("meetsIn(2)", () -> x.meetsIn(2));
-        RiverMeeting met = Checks.loaded("Wewewe");
-        checks.throwsArgument("why(3) of a game that is over", () -> met.why(3));
-        checks.throwsIndex("whyDam(8, 8) of a game that is over", () -> met.whyDam(8, 8));
-        checks.throwsIndex("meetsIn(2) of a game that is over", () -> met.meetsIn(2));
+        checks.seen("another best step without the dam", differs);
     }
 
+    /** NONE if there is none, or the game is over. */
+    private static void noBestStep() {
+        String[] games = {
+            Games.STUCK, Games.CORNERS, Games.MET, Games.DRAWN, Games.BEFORE_LAST_MEETING + "w",
+            Games.BEFORE_LAST_STEP + "w"
+        };
+        for (String moves : games) {
+            checks.due("best() behind " + moves, Games.played(moves).best(), -1);
+        }
+        checks.due("best() of the last turn", Games.played(Games.BEFORE_LAST_STEP).best(), 2);
+        checks.due("best() of a meeting alone", Games.played(Games.BEFORE_LAST_MEETING).best(), 2);
+        checks.due("best() in the row 7", Games.played(ROW_7 + "w").best() > 0 ? 1 : 0, 1);
+    }
+
+    private static RiverMeeting asked(RiverMeeting x) {
+        for (int cell = 0; cell < 64; cell++) {
+            x.whyDam(cell % 8, cell / 8);
+        }
+        for (int k = 0; k < 3; k++) {
+            x.why(k);
+            x.cheapest(k % 2, 0);
+            x.cheapest(k % 2, 1);
+            x.meetsIn(k % 2);
+        }
+        x.leastWished();
+        x.best();
+        return x;
+    }
+
+    /** These change nothing. */
     private static void changeNothing() {
-        for (String text : GAMES) {
-            RiverMeeting x = Checks.loaded(text);
-            String before = Checks.told(x);
-            for (int cell = 0; cell < 64; cell++) {
-                x.whyDam(cell % 8, cell / 8);
-            }
-            for (int k = 0; k < 3; k++) {
-                x.why(k);
-                x.cheapest(k % 2, 0);
-                x.cheapest(k % 2, 1);
-                x.meetsIn(k % 2);
-            }
-            x.leastWished();
-            x.best();
-            checks.same("asking in " + text, before, x);
-            checks.throwsState("undo() after asking", x::undo);
+        String[] games = {"", "v003d33sd44", Games.MET, Games.STUCK, Games.DRAWN, "n05ewew"};
+        for (String moves : games) {
+            checks.alike("asking behind " + moves, () -> asked(Games.played(moves)),
+                    () -> Games.played(moves));
         }
     }
 }
