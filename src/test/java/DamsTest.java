@@ -17,6 +17,7 @@ public final class DamsTest {
         shutsInTheOwnRiver();
         shutsInTheOtherRiver();
         shutsOnlyWithTheLastWay();
+        theCornersAreWays();
         overItsOwnRiverLeadsNoWay();
         northwardsLeadsNoWay();
         noWayLeadsRoundTheBorder();
@@ -207,6 +208,23 @@ public final class DamsTest {
         due(along, 5, 0, 3);
         due(along, 2, 0, 3);
         due(along, 5, 1, 0);
+    }
+
+    /** (0, 0) and (7, 0) are cells as others are, whatever was asked before. */
+    private static void theCornersAreWays() {
+        RiverMeeting x = new RiverMeeting();
+        checks.isTrue("a way to the sea", x.cheapest(0, 0) >= 0 && x.cheapest(1, 0) >= 0);
+        due(x, 1, 1, 0);
+        checks.due("whyDam(0, 0) with a way over (2, 0)", x.whyDam(0, 0), 0);
+        checks.due("whyDam(2, 0) with a way over (0, 0)", x.whyDam(2, 0), 0);
+        due(x, 0, 0, 0);
+        due(x, 2, 0, 3);
+        due(x, 6, 1, 0);
+        checks.due("whyDam(5, 0) with a way over (7, 0)", x.whyDam(5, 0), 0);
+        due(x, 7, 0, 0);
+        checks.isTrue("a way to the sea", x.cheapest(0, 0) >= 0 && x.cheapest(1, 0) >= 0);
+        due(x, 5, 0, 3);
+        due(x, 2, 0, 3);
     }
 
     /** Over cells without its own river: back along its own row a river can not go. */

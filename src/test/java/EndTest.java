@@ -14,6 +14,7 @@ public final class EndTest {
         bothPayForTheMeeting();
         bothPayByTheSettingAsItIsThen();
         whoHasPaidLessWins();
+        paymentsOfOtherGamesDoNotCount();
         floodsCountForWhoWins();
         gamesWonInAllGames();
         overWith80Turns();
@@ -145,6 +146,28 @@ public final class EndTest {
             checks.seen("won by 1 by " + p, byOne[p]);
             checks.seen("won by the meeting by " + p, byTheMeeting[p]);
         }
+    }
+
+    /** Who has paid less in a game wins it, not who has paid less in all games. */
+    private static void paymentsOfOtherGamesDoNotCount() {
+        int drawn = 0;
+        int[] otherwise = new int[2];
+        for (int seed = 0; seed < 300; seed++) {
+            RiverMeeting x = gameOf(1 + seed % 5, 3, Games.MET);
+            x.game(seed);
+            Games.play(x, Games.MET);
+            int difference = x.playerOf(0, 2) - x.playerOf(1, 2);
+            int inAll = x.playerOf(0, 5) - x.playerOf(1, 5);
+            int winner = difference == 0 ? -1 : difference < 0 ? 0 : 1;
+            checks.due("won with the seed " + seed, x.about(6), winner);
+            drawn += winner == -1 && inAll != 0 ? 1 : 0;
+            if (winner >= 0) {
+                otherwise[winner] += (winner == 0 ? inAll : -inAll) > 0 ? 1 : 0;
+            }
+        }
+        checks.seen("drawn, with unlike payments in all games", drawn);
+        checks.seen("won by 0, who paid more in all games", otherwise[0]);
+        checks.seen("won by 1, who paid more in all games", otherwise[1]);
     }
 
     /** What a flood costs is paid in the game, too. */

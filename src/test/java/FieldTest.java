@@ -138,12 +138,17 @@ public final class FieldTest {
         }
     }
 
-    /** Promise 11: returns the games so far, with this one. */
+    /** Promise 11: returns the games so far, with this one; up to the 512th call of an object. */
     private static void countsGames() {
         RiverMeeting x = new RiverMeeting();
-        for (int games = 2; games <= 120; games++) {
+        for (int games = 2; games <= 512; games++) {
             checks.due("game()", x.game(games), games);
-            checks.due("the games so far", x.about(0), games);
+        }
+        checks.due("the games so far", x.about(0), 512);
+        RiverMeeting y = new RiverMeeting();
+        for (int games = 2; games <= 100; games++) {
+            y.game(games);
+            checks.due("the games so far", y.about(0), games);
         }
     }
 

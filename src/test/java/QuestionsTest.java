@@ -33,6 +33,7 @@ public final class QuestionsTest {
         leastWishedBetween();
         leastWishedOfLikeOnes();
         leastWishedNowhere();
+        leastWishedBehindAMeeting();
         bestOfLikeOnes();
         bestThatMeets();
         bestWithoutAWay();
@@ -69,9 +70,10 @@ public final class QuestionsTest {
         Seen seen = new Seen(x);
         for (int p = 0; p < 2; p++) {
             int cheapest = seen.cheapest(p);
-            checks.due("cheapest(" + p + ", 0) " + when, x.cheapest(p, 0), cheapest);
             checks.due("cheapest(" + p + ", 1) " + when, x.cheapest(p, 1), cheapest);
             checks.due("meetsIn(" + p + ") " + when, x.meetsIn(p), seen.meetsIn(p));
+            checks.due("cheapest(" + p + ", 1) again " + when, x.cheapest(p, 1), cheapest);
+            checks.due("cheapest(" + p + ", 0) " + when, x.cheapest(p, 0), cheapest);
         }
         checks.due("leastWished() " + when, x.leastWished(), seen.leastWished());
         checks.due("best() " + when, x.best(), seen.best());
@@ -188,6 +190,7 @@ public final class QuestionsTest {
         meetsInDue(ROW_7 + "d37", -1, -1);
         meetsInDue(Games.CORNERS, -1, -1);
         meetsInDue(Games.DRAWN, -1, -1);
+        meetsInDue(Games.BEFORE_LAST_STEP + "w", -1, 2);
         meetsInDue(ONE_BETWEEN, 2, 2);
         meetsInDue(ONE_BETWEEN + "e", 1, 1);
     }
@@ -241,10 +244,24 @@ public final class QuestionsTest {
         RiverMeeting dam = Games.played("swsw" + "s".repeat(10) + "d00sd70sd27");
         checks.due("the dam", dam.cellOf(2, 7, 2), 4);
         checks.due("leastWished() behind a dam", dam.leastWished(), -1);
-        RiverMeeting met = Games.played(Games.MET);
-        checks.due("leastWished() of rivers that met", met.leastWished(),
-                new Seen(met).leastWished());
-        checks.isTrue("a cell both could come to", met.leastWished() > 7);
+    }
+
+    /** Where the rivers met there are rivers, also if that cell would be the dearest one. */
+    private static void leastWishedBehindAMeeting() {
+        int dearest = 0;
+        for (int seed = 0; seed < 1500; seed++) {
+            int there = Games.cost(seed, 0, 4) + Games.cost(seed, 1, 4);
+            if (there < 17) {
+                continue;
+            }
+            RiverMeeting x = gameOf(seed, Games.MET);
+            Seen seen = new Seen(x);
+            int due = seen.leastWished();
+            checks.due("leastWished() with the seed " + seed, x.leastWished(), due);
+            int cost = x.cellOf(due % 8, due / 8, 0) + x.cellOf(due % 8, due / 8, 1);
+            dearest += there >= cost ? 1 : 0;
+        }
+        checks.seen("a meeting in the dearest cell", dearest);
     }
 
     private static void bestOf(int seed, String moves, int[] like) {
