@@ -12,6 +12,7 @@ public final class FloodsTest {
         washesDamsAway();
         washesNoOtherDamsAway();
         washesNothingRoundTheBorder();
+        countsWhatItWashesAlone();
         costsFive();
         isATurnAndNoRefusal();
         countsFloodsOfAllGames();
@@ -132,6 +133,21 @@ public final class FloodsTest {
         checks.due("flood() of 1 at the sea", sea.flood(), 0);
         checks.due("the dam in (0, 0)", sea.cellOf(0, 0, 2), 4);
         checks.due("the dam in (7, 0)", sea.cellOf(7, 0, 2), 4);
+    }
+
+    /** Returns how many dams are washed away: not those that go at the end of its turn. */
+    private static void countsWhatItWashesAlone() {
+        RiverMeeting last = Games.played("v005" + Games.STUCK);
+        checks.due("it has stood for 4 of 5 turns", last.cellOf(0, 1, 3), 4);
+        checks.due("flood() of a dam that would go", last.flood(), 1);
+        RiverMeeting other = Games.played("v005d77d01ws");
+        checks.due("the other one has stood for 4 of 5 turns", other.cellOf(7, 7, 3), 4);
+        checks.due("flood() of one dam, with which another goes", other.flood(), 1);
+        checks.due("dams", other.about(4), 0);
+        RiverMeeting none = Games.played("v004" + Games.STUCK);
+        checks.throwsState("flood() where the dam went", none::flood);
+        RiverMeeting sea = Games.played(Games.CORNERS + "fv001");
+        checks.due("flood() of 1 without a dam", sea.flood(), 0);
     }
 
     private static void paid(String when, RiverMeeting x, int by0, int by1) {
