@@ -25,6 +25,7 @@ public final class DamsTest {
         theOtherRiverIsAWayOut();
         shutInAlready();
         shutInNoMore();
+        eachCellInManyGames();
         whyDamBehindAGame();
         checks.end();
     }
@@ -314,6 +315,16 @@ public final class DamsTest {
         gone.step(0);
         due(gone, 0, 1, 3);
         due(gone, 7, 7, 0);
+    }
+
+    /** Each reason, for each cell, told by other means than in the class. */
+    private static void eachCellInManyGames() {
+        for (String moves : Games.MANY) {
+            RiverMeeting x = Games.played(moves);
+            if (x.about(1) == 1) {
+                Seen.compareDams(checks, "behind " + moves, x);
+            }
+        }
     }
 
     /** NONE if the game is over; no cell comes before that. */

@@ -2,8 +2,6 @@
 public final class FloodsTest {
     private static final Checks checks = new Checks("floods");
 
-    private static final String ROW_7 = "s".repeat(14);
-
     public static void main(String[] args) {
         noFloodWhileAStepIsPossible();
         noFloodWhileTheRiversCanMeet();
@@ -38,9 +36,9 @@ public final class FloodsTest {
         noFlood("wes", 0, 1, 3);
         noFlood("sd72sesss", 2, 1, 0);
         noFlood("sd62sd51sss", 2, 0, 2);
-        noFlood(ROW_7, 1, 0, 0);
-        noFlood(ROW_7 + "w", 1, 0, 0);
-        noFlood(ROW_7 + "ee", 1, 0, 3);
+        noFlood(Games.ROW_7, 1, 0, 0);
+        noFlood(Games.ROW_7 + "w", 1, 0, 0);
+        noFlood(Games.ROW_7 + "ee", 1, 0, 3);
     }
 
     private static void noFloodWhileTheRiversCanMeet() {
@@ -92,8 +90,8 @@ public final class FloodsTest {
         washed(Games.STUCK, 8);
         washed("sd71ses", 15);
         washed("d77d01ws", 8);
-        washed(ROW_7 + "ed37", 59);
-        washed(ROW_7 + "d47ww", 60);
+        washed(Games.ROW_7 + "ed37", 59);
+        washed(Games.ROW_7 + "d47ww", 60);
         washed("d02sd11swsss", 16, 9);
         washed("sd72sd61sesss", 23, 14);
         washed("s".repeat(12) + "d07d27ss", 56, 58);
@@ -128,7 +126,7 @@ public final class FloodsTest {
         checks.due("the head of 1", east.playerOf(1, 1), 15);
         checks.due("flood() at the east border", east.flood(), 2);
         checks.due("the west end of the row below", east.cellOf(0, 2, 3), 7);
-        RiverMeeting sea = Games.played("v040d00d70" + ROW_7 + "we");
+        RiverMeeting sea = Games.played("v040d00d70" + Games.ROW_7 + "we");
         checks.due("flood() of 0 at the sea", sea.flood(), 0);
         checks.due("flood() of 1 at the sea", sea.flood(), 0);
         checks.due("the dam in (0, 0)", sea.cellOf(0, 0, 2), 4);

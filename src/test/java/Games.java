@@ -28,6 +28,25 @@ final class Games {
      */
     static final String SIDE_BY_SIDE = "wwswd02wd12wd77se";
 
+    /** Both rivers lie in (1, 7) and (6, 7); it is the turn of the player 0. */
+    static final String ROW_7 = "s".repeat(14);
+
+    /** The rivers end in (1, 7) and (3, 7): (2, 7) alone lies between them. */
+    static final String ONE_BETWEEN = "swswsw" + "s".repeat(8) + "d00sd70sd77s";
+
+    /** Those in (1, 7) and (4, 7): (2, 7) and (3, 7) lie between them. */
+    static final String TWO_BETWEEN = "swsw" + "s".repeat(10) + "d00sd70s";
+
+    /** Moves that are possible on any field. */
+    static final String[] MANY = {
+        "", "s", "ewew", "ewewd77s", MET, "ewewd77se", STUCK, STUCK + "f", SIDE_BY_SIDE,
+        "wwswewd22sd77se", "s".repeat(6), "s".repeat(11), "s".repeat(12), "s".repeat(13), ROW_7,
+        ROW_7 + "e", CORNERS, ONE_BETWEEN, TWO_BETWEEN, "we", "d21d51", "d11d61", "v003d21d66",
+        "v002d22", "d23d53d24d54d25d55", "seessd34d43", "d13d33d24d44sees", "d12sd21sd01ss",
+        "esd00wd07wd17wew", "v109d02sd11swss", "d31d41d32d42d33d43",
+        "d26sd36sd46s" + "s".repeat(6), "v101ewew", "v109ewew"
+    };
+
     private Games() {
     }
 
@@ -44,6 +63,14 @@ final class Games {
     /** A new object on which the moves are made by calls, all of which must be possible. */
     static RiverMeeting played(String moves) {
         RiverMeeting x = new RiverMeeting();
+        play(x, moves);
+        return x;
+    }
+
+    /** A new object with a second game of that seed, in which the moves are made. */
+    static RiverMeeting ofSeed(long seed, String moves) {
+        RiverMeeting x = new RiverMeeting();
+        x.game(seed);
         play(x, moves);
         return x;
     }

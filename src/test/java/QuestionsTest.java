@@ -4,24 +4,6 @@ public final class QuestionsTest {
 
     private static final int[] WRONG = {-1, 2, 3, Integer.MIN_VALUE, Integer.MAX_VALUE};
 
-    private static final String ROW_7 = "s".repeat(14);
-
-    /** The rivers end in (1, 7) and (3, 7): (2, 7) alone lies between them. */
-    private static final String ONE_BETWEEN = "swswsw" + "s".repeat(8) + "d00sd70sd77s";
-
-    /** Those in (1, 7) and (4, 7): (2, 7) and (3, 7) lie between them. */
-    private static final String TWO_BETWEEN = "swsw" + "s".repeat(10) + "d00sd70s";
-
-    /** Moves that are possible on any field. */
-    private static final String[] GAMES = {
-        "", "s", "ewew", "ewewd77s", Games.MET, "ewewd77se", Games.STUCK, Games.STUCK + "f",
-        Games.SIDE_BY_SIDE, "wwswewd22sd77se", "s".repeat(6), "s".repeat(11), "s".repeat(12),
-        "s".repeat(13), ROW_7, ROW_7 + "e", Games.CORNERS, ONE_BETWEEN, TWO_BETWEEN, "we",
-        "d21d51", "d11d61", "v003d21d66", "v002d22", "d23d53d24d54d25d55", "seessd34d43",
-        "d13d33d24d44sees", "d12sd21sd01ss", "esd00wd07wd17wew", "v109d02sd11swss",
-        "d31d41d32d42d33d43", "d26sd36sd46s" + "s".repeat(6), "v101ewew", "v109ewew"
-    };
-
     public static void main(String[] args) {
         playersAndWaysThereAre();
         allGamesOnManyFields();
@@ -45,7 +27,7 @@ public final class QuestionsTest {
 
     /** IndexOutOfBoundsException comes first, then IllegalArgumentException. */
     private static void playersAndWaysThereAre() {
-        for (String moves : new String[] {"", Games.MET, Games.DRAWN, ROW_7}) {
+        for (String moves : new String[] {"", Games.MET, Games.DRAWN, Games.ROW_7}) {
             RiverMeeting x = Games.played(moves);
             for (int wrong : WRONG) {
                 checks.throwsIndex("cheapest(" + wrong + ", 0)", () -> x.cheapest(wrong, 0));
@@ -59,37 +41,18 @@ public final class QuestionsTest {
         }
     }
 
-    private static RiverMeeting gameOf(int seed, String moves) {
-        RiverMeeting x = new RiverMeeting();
-        x.game(seed);
-        Games.play(x, moves);
-        return x;
-    }
-
-    private static void asSeen(String when, RiverMeeting x) {
-        Seen seen = new Seen(x);
-        for (int p = 0; p < 2; p++) {
-            int cheapest = seen.cheapest(p);
-            checks.due("cheapest(" + p + ", 1) " + when, x.cheapest(p, 1), cheapest);
-            checks.due("meetsIn(" + p + ") " + when, x.meetsIn(p), seen.meetsIn(p));
-            checks.due("cheapest(" + p + ", 1) again " + when, x.cheapest(p, 1), cheapest);
-            checks.due("cheapest(" + p + ", 0) " + when, x.cheapest(p, 0), cheapest);
-        }
-        checks.due("leastWished() " + when, x.leastWished(), seen.leastWished());
-        checks.due("best() " + when, x.best(), seen.best());
-    }
-
     private static void allGamesOnManyFields() {
-        for (String moves : GAMES) {
+        for (String moves : Games.MANY) {
             for (int seed = 0; seed < 30; seed++) {
-                asSeen("behind " + moves + " with the seed " + seed, gameOf(seed, moves));
+                Seen.compare(checks, "behind " + moves + " with the seed " + seed,
+                        Games.ofSeed(seed, moves));
             }
         }
     }
 
     private static void gamesOfBestSteps() {
         for (int seed = 0; seed < 120; seed++) {
-            RiverMeeting x = gameOf(seed, "v00" + (1 + seed % 9));
+            RiverMeeting x = Games.ofSeed(seed, "v00" + (1 + seed % 9));
             for (int turns = 0; turns < seed % 24; turns++) {
                 int best = x.best();
                 if (best < 0) {
@@ -101,14 +64,14 @@ public final class QuestionsTest {
                     x.step(best);
                 }
             }
-            asSeen("behind best steps with the seed " + seed, x);
+            Seen.compare(checks, "behind best steps with the seed " + seed, x);
         }
     }
 
     /** 0 if the head is in that row (the same for both ways), also if it can make no step. */
     private static void noughtInTheRow7() {
         String[] games = {
-            ROW_7, ROW_7 + "e", Games.CORNERS, Games.DRAWN, ONE_BETWEEN, ROW_7 + "ewew"
+            Games.ROW_7, Games.ROW_7 + "e", Games.CORNERS, Games.DRAWN, Games.ONE_BETWEEN, Games.ROW_7 + "ewew"
         };
         for (String moves : games) {
             RiverMeeting x = Games.played(moves);
@@ -127,7 +90,7 @@ public final class QuestionsTest {
         int nothing = 0;
         int sideways = 0;
         for (int seed = 0; seed < 60; seed++) {
-            RiverMeeting x = gameOf(seed, "s".repeat(12));
+            RiverMeeting x = Games.ofSeed(seed, "s".repeat(12));
             int south = Games.cost(seed, 0, 57);
             int due = Math.min(south, Games.costs(seed, 0, 48, 56));
             int east = 0;
@@ -186,20 +149,20 @@ public final class QuestionsTest {
         meetsInDue("wsd31sd32sd33s", 10, -1);
         meetsInDue(Games.SIDE_BY_SIDE, 1, 1);
         meetsInDue("wwswewd22sd77se", 1, -1);
-        meetsInDue(ROW_7, 5, 5);
-        meetsInDue(ROW_7 + "d37", -1, -1);
+        meetsInDue(Games.ROW_7, 5, 5);
+        meetsInDue(Games.ROW_7 + "d37", -1, -1);
         meetsInDue(Games.CORNERS, -1, -1);
         meetsInDue(Games.DRAWN, -1, -1);
         meetsInDue(Games.BEFORE_LAST_STEP + "w", -1, 2);
-        meetsInDue(ONE_BETWEEN, 2, 2);
-        meetsInDue(ONE_BETWEEN + "e", 1, 1);
+        meetsInDue(Games.ONE_BETWEEN, 2, 2);
+        meetsInDue(Games.ONE_BETWEEN + "e", 1, 1);
     }
 
     /** The cell with the greatest cost for both players together, also if that is 0. */
     private static void leastWishedBetween() {
         int[] sums = new int[19];
         for (int seed = 0; seed < 700; seed++) {
-            RiverMeeting x = gameOf(seed, ONE_BETWEEN);
+            RiverMeeting x = Games.ofSeed(seed, Games.ONE_BETWEEN);
             checks.due("leastWished() of one cell", x.leastWished(), 58);
             sums[Games.cost(seed, 0, 58) + Games.cost(seed, 1, 58)]++;
         }
@@ -208,7 +171,7 @@ public final class QuestionsTest {
         int[] chosen = new int[2];
         int like = 0;
         for (int seed = 0; seed < 100; seed++) {
-            RiverMeeting x = gameOf(seed, TWO_BETWEEN);
+            RiverMeeting x = Games.ofSeed(seed, Games.TWO_BETWEEN);
             int west = Games.cost(seed, 0, 58) + Games.cost(seed, 1, 58);
             int east = Games.cost(seed, 0, 59) + Games.cost(seed, 1, 59);
             checks.due("leastWished() of two cells", x.leastWished(), west >= east ? 58 : 59);
@@ -224,7 +187,7 @@ public final class QuestionsTest {
     private static void leastWishedOfLikeOnes() {
         int several = 0;
         for (int seed = 0; seed < 60; seed++) {
-            RiverMeeting x = gameOf(seed, "");
+            RiverMeeting x = Games.ofSeed(seed, "");
             Seen seen = new Seen(x);
             several += seen.leastWishedCells() > 1 ? 1 : 0;
             checks.due("leastWished() with the seed " + seed, x.leastWished(), seen.leastWished());
@@ -235,8 +198,8 @@ public final class QuestionsTest {
     /** NONE if there is none: to which both heads can come, each over free cells. */
     private static void leastWishedNowhere() {
         String[] games = {
-            Games.CORNERS, Games.DRAWN, ONE_BETWEEN + "e", ONE_BETWEEN + "ww",
-            "d01sw", Games.STUCK, Games.SIDE_BY_SIDE, ROW_7 + "d27d37d47"
+            Games.CORNERS, Games.DRAWN, Games.ONE_BETWEEN + "e", Games.ONE_BETWEEN + "ww",
+            "d01sw", Games.STUCK, Games.SIDE_BY_SIDE, Games.ROW_7 + "d27d37d47"
         };
         for (String moves : games) {
             checks.due("leastWished() behind " + moves, Games.played(moves).leastWished(), -1);
@@ -254,7 +217,7 @@ public final class QuestionsTest {
             if (there < 17) {
                 continue;
             }
-            RiverMeeting x = gameOf(seed, Games.MET);
+            RiverMeeting x = Games.ofSeed(seed, Games.MET);
             Seen seen = new Seen(x);
             int due = seen.leastWished();
             checks.due("leastWished() with the seed " + seed, x.leastWished(), due);
@@ -265,7 +228,7 @@ public final class QuestionsTest {
     }
 
     private static void bestOf(int seed, String moves, int[] like) {
-        RiverMeeting x = gameOf(seed, moves);
+        RiverMeeting x = Games.ofSeed(seed, moves);
         Seen seen = new Seen(x);
         int[] prices = seen.prices();
         int best = seen.best();
@@ -300,7 +263,7 @@ public final class QuestionsTest {
         int byThePlayer = 0;
         for (int seed = 0; seed < 60; seed++) {
             for (int factor = 1; factor <= 9; factor++) {
-                RiverMeeting x = gameOf(seed, "v10" + factor + "ewew");
+                RiverMeeting x = Games.ofSeed(seed, "v10" + factor + "ewew");
                 int[] prices = new Seen(x).prices();
                 int meeting = factor * Games.cost(seed, 0, 4);
                 checks.due("what the meeting costs", prices[1], meeting);
@@ -323,18 +286,18 @@ public final class QuestionsTest {
         int cheap = 0;
         for (int seed = 0; seed < 40; seed++) {
             // 1 in (5, 1): south is a dam, east leads nowhere, west meets 0 in (4, 1)
-            RiverMeeting x = gameOf(seed, "v109d07wd17sed72ed62ed52s");
+            RiverMeeting x = Games.ofSeed(seed, "v109d07wd17sed72ed62ed52s");
             checks.due("the heads", 100 * x.playerOf(0, 1) + x.playerOf(1, 1), 1213);
             checks.due("no way to the sea", x.cheapest(1, 0), -1);
             checks.due("one that meets comes before one that leads nowhere", x.best(), 2);
             // 0 in (2, 6) over a row of dams: both ways lead nowhere
-            RiverMeeting y = gameOf(seed, "ed27d07d47d17d57d37sssssssssssss");
+            RiverMeeting y = Games.ofSeed(seed, "ed27d07d47d17d57d37sssssssssssss");
             checks.due("the heads", 100 * y.playerOf(0, 1) + y.playerOf(1, 1), 5062);
             checks.due("no way to the sea", y.cheapest(0, 0), -1);
             checks.due("the lowest of steps that lead nowhere", y.best(), 1);
             dear += Games.cost(seed, 0, 51) > Games.cost(seed, 0, 49) ? 1 : 0;
             // 0 in (1, 1): south and west lead nowhere, east leads on
-            RiverMeeting z = gameOf(seed, "d13d22d02sss");
+            RiverMeeting z = Games.ofSeed(seed, "d13d22d02sss");
             checks.due("the step that leads to the sea", z.best(), 1);
             cheap += Games.cost(seed, 0, 17) < Games.cost(seed, 0, 10) ? 1 : 0;
         }
@@ -346,8 +309,8 @@ public final class QuestionsTest {
     private static void bestByTheDamsAsTheyAre() {
         int differs = 0;
         for (int seed = 0; seed < 60; seed++) {
-            RiverMeeting going = gameOf(seed, "v003d13d77");
-            RiverMeeting without = gameOf(seed, "d77d70");
+            RiverMeeting going = Games.ofSeed(seed, "v003d13d77");
+            RiverMeeting without = Games.ofSeed(seed, "d77d70");
             checks.due("the dam goes at the end of the turn", going.cellOf(1, 3, 3), 2);
             int best = new Seen(going).best();
             checks.due("best() with the seed " + seed, going.best(), best);
@@ -367,7 +330,7 @@ public final class QuestionsTest {
         }
         checks.due("best() of the last turn", Games.played(Games.BEFORE_LAST_STEP).best(), 2);
         checks.due("best() of a meeting alone", Games.played(Games.BEFORE_LAST_MEETING).best(), 2);
-        checks.due("best() in the row 7", Games.played(ROW_7 + "w").best() > 0 ? 1 : 0, 1);
+        checks.due("best() in the row 7", Games.played(Games.ROW_7 + "w").best() > 0 ? 1 : 0, 1);
     }
 
     private static RiverMeeting asked(RiverMeeting x) {

@@ -23,6 +23,53 @@ final class Seen {
         factor = x.setting(1);
     }
 
+    /** Checks what the promises 19 to 22 answer of the object: 10 calls behind those of Seen. */
+    static void compare(Checks checks, String when, RiverMeeting x) {
+        Seen seen = new Seen(x);
+        for (int p = 0; p < 2; p++) {
+            int cheapest = seen.cheapest(p);
+            checks.due("cheapest(" + p + ", 1) " + when, x.cheapest(p, 1), cheapest);
+            checks.due("meetsIn(" + p + ") " + when, x.meetsIn(p), seen.meetsIn(p));
+            checks.due("cheapest(" + p + ", 1) again " + when, x.cheapest(p, 1), cheapest);
+            checks.due("cheapest(" + p + ", 0) " + when, x.cheapest(p, 0), cheapest);
+        }
+        checks.due("leastWished() " + when, x.leastWished(), seen.leastWished());
+        checks.due("best() " + when, x.best(), seen.best());
+    }
+
+    /** Checks what the promise 18 answers of each cell in a game under way: 65 calls more. */
+    static void compareDams(Checks checks, String when, RiverMeeting x) {
+        Seen seen = new Seen(x);
+        int built = x.playerOf(seen.turn, 3);
+        for (int cell = 0; cell < 64; cell++) {
+            checks.due("whyDam() of " + cell + " " + when, x.whyDam(cell % 8, cell / 8),
+                    seen.whyDam(cell, built));
+        }
+    }
+
+    private int whyDam(int cell, int built) {
+        if (there[cell] != 0) {
+            return 1;
+        }
+        if (built == 3) {
+            return 2;
+        }
+        there[cell] = 4;
+        boolean shut = isShutIn(0) || isShutIn(1);
+        there[cell] = 0;
+        return shut ? 3 : 0;
+    }
+
+    private boolean isShutIn(int p) {
+        int[] steps = steps(p);
+        boolean out = heads[p] / 8 == 7;
+        for (int cell = 0; cell < 64; cell++) {
+            boolean goal = there[cell] == 2 - p || there[cell] == 0 && cell / 8 == 7;
+            out |= goal && steps[cell] < FAR;
+        }
+        return !out;
+    }
+
     private boolean free(int column, int row) {
         return column >= 0 && column < 8 && row < 8 && there[8 * row + column] == 0;
     }
